@@ -1109,7 +1109,7 @@ public final class TuneLocks {
 
         private void takeLetters() {
             word = 0;
-            while (letterAt(at)) {
+            while (at < size && letterAt(at)) {
                 word = word * 32 + (text[at] - 'a' + 1);
                 at++;
             }
@@ -1118,7 +1118,7 @@ public final class TuneLocks {
 
         private void takeDigits() {
             number = 0;
-            while (digitAt(at)) {
+            while (at < size && digitAt(at)) {
                 number = number * 10 + (text[at] - '0');
                 at++;
             }
@@ -1313,7 +1313,7 @@ public final class TuneLocks {
                     overlaps[i][j] = overlap(town.tunes[members[i]], town.tunes[members[j]]);
                 }
             }
-            fewest = Integer.MAX_VALUE;
+            fewest = MOST_LAID * TUNE_NOTES + 1;
             layNext(0, 0, 0);
         }
 

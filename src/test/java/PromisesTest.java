@@ -370,6 +370,10 @@ public final class PromisesTest {
         c.due("round(3, 9)", x.round(3, 9), 99);
         c.due("round(3, 99)", x.round(3, 99), 9);
         c.due("good(3, 0)", x.good(3, 0), 18);
+        // First and last alike, all between them otherwise: only 99 later all is sweet.
+        TuneLocks v = Check.told("sweet 0;tune a of 0 9 1 9 2 9 3 9 4 9 5 9 6 9 7 9 8 9 9 9 10 9 0 9;");
+        c.due("good at 99", v.good(0, 0), 99);
+        c.due("good at 99", v.good(0, 1), 0);
         // Told tones alone are sweet; 11 higher is not 1 higher.
         TuneLocks y = Check.told("sweet 1 011; tune a of 0 1 1 1; tune b of 11 1 0 1; tune c of 3 1 3 1;");
         c.due("sweet 1", y.round(0, 1), 0);
@@ -487,6 +491,11 @@ public final class PromisesTest {
         c.due("40 notes", x.about(2), 40);
         c.due("song beyond 40", x.song(0, 0), NONE);
         c.due("doors stay", x.doors(0, false), 2);
+        TuneLocks y = Check.told("tune a of 0 1;tune b of 60 1;");
+        c.due("60 higher", y.song(0, 60), 0);
+        c.due("60 lower", y.song(1, -60), 0);
+        c.due("61 higher", y.song(0, 61), NONE);
+        c.due("61 lower", y.song(1, -61), NONE);
     }
 
     private void silenceShutNight() {
