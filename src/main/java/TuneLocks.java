@@ -38,6 +38,7 @@ public final class TuneLocks {
     private int latestPlace = NONE;
     private final Scene now = new Scene();
     private final Scene[] boxes = new Scene[BOXES];
+    // How the VOICE is heard; kept in step with it, since a NOTE more adds one place for each TUNE.
     private final Hearing ear = new Hearing();
     private final Watches watches = new Watches();
     private int time;
@@ -96,6 +97,7 @@ public final class TuneLocks {
         here.prepare();
         tapeSize = 0;
         now.clear();
+        ear.hearAll(now.voice, here);
         watches.clear();
         for (int i = 0; i < boxes.length; i++) {
             boxes[i].clear();
@@ -260,7 +262,7 @@ public final class TuneLocks {
 
     private int singNote(int high, int length) {
         now.voice.add(high, length);
-        ear.hearAll(now.voice, here);
+        ear.hearLast(now.voice, here);
         int opened = 0;
         for (int i = 0; i < here.lockCount; i++) {
             boolean isShut = (now.open >> i & 1) == 0;
@@ -296,6 +298,7 @@ public final class TuneLocks {
     public int silence() {
         int were = now.voice.count;
         now.voice.count = 0;
+        ear.hearAll(now.voice, here);
         return were;
     }
 
@@ -333,7 +336,6 @@ public final class TuneLocks {
         if (!here.hasTune(tune)) {
             return NONE;
         }
-        ear.hearTune(now.voice, here, tune);
         return tellIn(ear, tune, now.voice, what);
     }
 
@@ -404,6 +406,7 @@ public final class TuneLocks {
             return NONE;
         }
         now.becomeLike(boxes[box]);
+        ear.hearAll(now.voice, here);
         return now.voice.count;
     }
 
@@ -537,27 +540,37 @@ public final class TuneLocks {
         void hearAll(Song song, Town town) {
             notes = song.count;
             for (int i = 0; i < town.tuneCount; i++) {
-                hearTune(song, town, i);
+                place[i] = NONE;
+                least[i] = NONE;
+                atFirst[i] = NONE;
+                atLast[i] = NONE;
+                int last = song.count - town.tunes[i].count;
+                for (int j = 0; j <= last; j++) {
+                    hearAt(i, j, town.tunes[i].offAt(song, j));
+                }
             }
         }
 
-        void hearTune(Song song, Town town, int tune) {
-            place[tune] = NONE;
-            least[tune] = NONE;
-            atFirst[tune] = NONE;
-            atLast[tune] = NONE;
-            int places = song.count - town.tunes[tune].count + 1;
-            for (int i = 0; i < places; i++) {
-                int off = town.tunes[tune].offAt(song, i);
-                if (i == 0) {
-                    atFirst[tune] = off;
+        /** Behind a NOTE more: all but its last place has been heard. */
+        void hearLast(Song song, Town town) {
+            notes = song.count;
+            for (int i = 0; i < town.tuneCount; i++) {
+                int last = song.count - town.tunes[i].count;
+                if (last >= 0) {
+                    hearAt(i, last, town.tunes[i].offAt(song, last));
                 }
-                if (i == 0 || off < least[tune]) {
-                    least[tune] = off;
-                    place[tune] = i;
-                }
-                atLast[tune] = off;
             }
+        }
+
+        private void hearAt(int tune, int at, int off) {
+            if (at == 0) {
+                atFirst[tune] = off;
+            }
+            if (at == 0 || off < least[tune]) {
+                least[tune] = off;
+                place[tune] = at;
+            }
+            atLast[tune] = off;
         }
     }
 
