@@ -27,6 +27,34 @@ final class Check {
         }
     }
 
+    /** A text with a FAULT. A sign ^ tells the place that is due; it isn't put on the TAPE. */
+    void bad(int fault, String marked) {
+        int place = marked.indexOf('^');
+        bad(fault, place, marked.substring(0, place) + marked.substring(place + 1));
+    }
+
+    void bad(int fault, int place, String text) {
+        TuneLocks x = new TuneLocks();
+        put(x, text);
+        due("town of " + text, x.town(), TuneLocks.NONE);
+        due("fault of " + text, x.fault(0), fault);
+        due("place of " + text, x.fault(1), place);
+        due("tunes behind the fault of " + text, x.about(0), 0);
+        due("tape behind the fault of " + text, x.about(6), text.length());
+    }
+
+    /** A text without one. */
+    TuneLocks good(String text, int tunes, int locks) {
+        TuneLocks x = new TuneLocks();
+        put(x, text);
+        due("town of " + text, x.town(), locks);
+        due("fault of " + text, x.fault(0), 0);
+        due("place of " + text, x.fault(1), TuneLocks.NONE);
+        due("tunes of " + text, x.about(0), tunes);
+        due("locks of " + text, x.about(1), locks);
+        return x;
+    }
+
     static void put(TuneLocks x, String text) {
         byte[] bytes = text.getBytes(StandardCharsets.ISO_8859_1);
         int before = x.about(6);
