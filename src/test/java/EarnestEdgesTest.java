@@ -33,6 +33,7 @@ public final class EarnestEdgesTest {
         t.whatIsNext();
         t.boxes();
         t.goneOnFrom();
+        t.heardAsKept();
         t.aboutAll();
         t.lastCalls();
         t.c.finish();
@@ -498,6 +499,11 @@ public final class EarnestEdgesTest {
         c.due("not for the thief", x.left(0), 1);
         c.due("not for what is next", x.next(2, -1), 1);
         x.untell(0);
+        x.watch(1, false, false);
+        c.due("worn is 0 for the thief", x.left(0), 3);
+        x.watch(1, true, true);
+        c.due("worn is 0 for the thief", x.left(0), 0);
+        x.untell(2);
         x.watch(2, true, true);
         c.due("at night", x.left(0), 2);
         c.due("whatever it is in earnest", x.night(true), true);
@@ -662,6 +668,32 @@ public final class EarnestEdgesTest {
         // What is heard goes on from the notes that were kept: 4, then 8 is up 4.
         x.sing(8, 1);
         c.due("heard from the kept note on", x.heard(0, 1), 0);
+    }
+
+    /** "All is as it was kept": what is IN the VOICE is so, too, and goes on from there. */
+    private void heardAsKept() {
+        TuneLocks x = Check.told("tune a of 0 1 4 1;tune b of 0 1 4 1 8 1;lock l near 0 opens ends b;");
+        x.song(0, 0);
+        x.image(0);
+        x.silence();
+        x.image(1);
+        x.sing(0, 1);
+        x.sing(1, 1);
+        x.sing(5, 2);
+        c.due("off by pace", x.heard(0, 1), 1);
+        c.due("at the second place", x.heard(0, 0), 1);
+        c.due("back", x.back(0), 2);
+        c.due("off by nothing", x.heard(0, 1), 0);
+        c.due("at the first place", x.heard(0, 0), 0);
+        c.due("longer", x.heard(1, 0), NONE);
+        c.due("gone on", x.sing(8, 1), 1);
+        c.due("b is there", x.heard(1, 1), 0);
+        c.due("back to nothing sung", x.back(1), 0);
+        c.due("nothing is heard", x.heard(0, 0), NONE);
+        x.sing(9, 1);
+        c.due("one note: longer", x.heard(0, 0), NONE);
+        x.sing(1, 1);
+        c.due("two notes", x.heard(0, 1), 12);
     }
 
     /** "What 0: .. 7: .. NONE for another what". */

@@ -17,6 +17,7 @@ public final class SongEdgesTest {
         t.leastOffFirstPlace();
         t.longerThanTheSong();
         t.firstOff();
+        t.asManyAsCanBe();
         t.askedWithNearOrLess();
         t.beginsAndEnds();
         t.nightNotesWorn();
@@ -199,6 +200,40 @@ public final class SongEdgesTest {
     }
 
     // ---- LOCKS
+
+    /** "At most 14 TUNES .., 8 LOCKS": with as many as can be, each is asked, and no more. */
+    private void asManyAsCanBe() {
+        StringBuilder s = new StringBuilder();
+        for (int i = 0; i < 14; i++) {
+            s.append("tune ").append((char) ('a' + i)).append(" of").append(notes(i < 12 ? i + 1 : 12)).append(';');
+        }
+        for (int i = 0; i < 8; i++) {
+            s.append("lock ").append((char) ('a' + i)).append(" near 0 opens notes > ").append(i + 5).append(';');
+        }
+        TuneLocks x = Check.told(s.toString());
+        for (int i = 0; i < 14; i++) {
+            int longer = Math.max(0, Math.min(i + 1, 12) - 5);
+            c.due("doors of tune " + i, x.doors(i, false), (1 << longer) - 1);
+        }
+        for (int i = 0; i < 8; i++) {
+            c.due("least of lock " + i, x.least(i, false), i < 7 ? i + 5 : NONE);
+        }
+        c.due("sung", x.song(11, 0), 127);
+        c.due("a 13th note", x.sing(0, 1), 128);
+        c.due("the last one heard", x.heard(13, 0), 0);
+        c.due("the last watched", x.watch(7, false, false), 0);
+        c.due("all are left", x.left(0), (1 << 14) - 1);
+        // What was told two towns ago is in none of them.
+        Check.put(x, "tune z of 1 1;lock z near 0 opens 1;");
+        c.due("a lock", x.town(), 1);
+        Check.put(x, "tune z of" + notes(3) + ";tune y of" + notes(2) + ";lock z near 0 opens notes < 3;lock y near 0 opens notes = 1;");
+        c.due("two locks", x.town(), 2);
+        c.due("least", x.least(0, false), 1);
+        c.due("none", x.least(1, false), NONE);
+        c.due("doors", x.doors(1, false), 1);
+        c.due("dealt", x.dealt(0), 1);
+        c.due("left", x.left(0), 3);
+    }
 
     /** A TUNE a, a SONG of two NOTES that a is off by so much, and a LOCK that asks for a. */
     private static TuneLocks offBy(int off, int near, String e) {
@@ -567,6 +602,16 @@ public final class SongEdgesTest {
         // The tune itself is not moved.
         c.due("the song alone", x.deaf(1, 1, 5), 0);
         c.due("the song alone", x.deaf(0, 0, 5), 1);
+        // Each way on its own, kept from note to note: 30 23 23 and 30 25 25.
+        TuneLocks w = Check.told("tune s of 30 1 24 1 24 1;tune low of 17 1 10 1 10 1;tune high of 15 1 10 1 10 1;"
+                + "tune r of 24 1 24 1 30 1;tune up of 10 1 10 1 17 1;tune upon of 10 1 10 1 15 1;"
+                + "tune lowhigh of 17 1 10 1 12 1;tune highlow of 15 1 12 1 10 1;");
+        c.due("both lower", w.deaf(1, 0, 0), 0);
+        c.due("both higher", w.deaf(2, 0, 0), 0);
+        c.due("lower, then as it is", w.deaf(4, 3, 0), 0);
+        c.due("higher, then as it is", w.deaf(5, 3, 0), 0);
+        c.due("lower, then higher", w.deaf(6, 0, 0), 0);
+        c.due("higher, then lower", w.deaf(7, 0, 0), 2);
         // Least over all places: only at the last it can be.
         TuneLocks y = Check.told("tune a of 1 1 3 1;tune s of 1 1 20 1 40 1 41 1;");
         c.due("at the last place", y.deaf(0, 1, 5), 0);

@@ -38,6 +38,8 @@ public final class TextEdgesTest {
         t.leastAtOnePlace();
         t.placeOfTheEnd();
         t.eachTextAnew();
+        t.textAfterText();
+        t.linesCutOff();
         t.c.finish();
     }
 
@@ -525,5 +527,67 @@ public final class TextEdgesTest {
         c.due("without sweet", x.town(), 0);
         c.due("3 again", x.round(1, 1), 0);
         c.due("not 1", x.round(0, 1), 1);
+    }
+
+    /** One object is told town after town; nothing of one of them is left in a later one. */
+    private void textAfterText() {
+        TuneLocks x = new TuneLocks();
+        String all = "sweet 0 1 2 3 4 5 6 7 8 9 10 11;tune a of 0 1 0 1;tune b of 0 1 11 1;" + LOCK + units(60) + ";";
+        String none = "sweet 5;tune a of 0 1 0 1;tune b of 0 1 11 1;lock k near 0 opens not 0;";
+        for (int i = 0; i < 8; i++) {
+            Check.put(x, all);
+            c.due("60 units, time " + i, x.town(), 1);
+            c.due("60 units, time " + i, x.about(7), 60);
+            c.due("60 units, time " + i, x.asked(0, 0, false), 60);
+            c.due("sweet 0", x.round(0, 1), 0);
+            c.due("sweet 11", x.round(1, 1), 0);
+        }
+        for (int i = 0; i < 3; i++) {
+            Check.put(x, none);
+            c.due("1 unit, time " + i, x.town(), 1);
+            c.due("1 unit, time " + i, x.about(7), 1);
+            c.due("1 unit, time " + i, x.asked(0, 0, false), 1);
+            c.due("0 is not sweet", x.round(0, 1), 1);
+            c.due("11 is not sweet", x.round(1, 1), 1);
+        }
+        for (int i = 0; i < 3; i++) {
+            Check.put(x, "sweet 0 11;tune a of 1 1;" + LOCK + units(60) + ";*");
+            c.due("a fault behind all", x.town(), -1);
+            c.due("a fault behind all", x.fault(0), 1);
+            c.due("0 is still not sweet", x.round(0, 1), 1);
+            x.end(0);
+        }
+        Check.put(x, all);
+        c.due("60 units, behind faults", x.town(), 1);
+        c.due("60 units, behind faults", x.asked(0, 0, true), 60);
+    }
+
+    /** "2 one that can't stand there": a line that ends too early, by the text's end or by the next line's first word. */
+    private void linesCutOff() {
+        String[][] lines = {{"tune", "a", "of", "1", "1", "2", "2", ";"}, {"sweet", "1", "2", ";"},
+            {"lock", "l", "near", "0", "opens", "not", "(", "in", "a", "+", "1", "<", "notes", "and", "night", ")", "or", "worn", ";"}};
+        for (String[] line : lines) {
+            StringBuilder s = new StringBuilder("tune a of 1 1;".substring(line[0].equals("tune") ? 14 : 0));
+            for (int i = 0; i < line.length - 1; i++) {
+                s.append(line[i]).append(' ');
+                c.bad(2, s + "^");
+                for (String next : new String[] {"tune z of 1 1;", "lock z near 0 opens 1;", "sweet 1;", "; ;"}) {
+                    // A sign ; may stand where the line is whole.
+                    boolean whole = next.startsWith(";") && isWhole(line, i);
+                    c.bad(2, whole ? s + "; ^;" : s + "^" + next);
+                }
+            }
+        }
+    }
+
+    private static boolean isWhole(String[] line, int last) {
+        switch (line[0]) {
+            case "tune":
+                return last > 2 && last % 2 == 0;
+            case "sweet":
+                return last > 0;
+            default:
+                return last == 15 || last == 17;
+        }
     }
 }
