@@ -989,15 +989,7 @@ public final class TuneLocks {
 
         private boolean readOne(int depth) {
             if (sort == NOT) {
-                if (depth > MOST_WITHIN) {
-                    return refuse();
-                }
-                takeToken();
-                if (!readOne(depth + 1)) {
-                    return false;
-                }
-                town.questions.add(NOT, 0);
-                return true;
+                return readNot(depth);
             }
             if (!readSum(depth)) {
                 return false;
@@ -1010,6 +1002,18 @@ public final class TuneLocks {
                 }
                 town.questions.add(relation, 0);
             }
+            return true;
+        }
+
+        private boolean readNot(int depth) {
+            if (depth > MOST_WITHIN) {
+                return refuse();
+            }
+            takeToken();
+            if (!readOne(depth + 1)) {
+                return false;
+            }
+            town.questions.add(NOT, 0);
             return true;
         }
 
@@ -1112,6 +1116,7 @@ public final class TuneLocks {
                 sort = THE_END;
             } else if (letterAt(at)) {
                 takeLetters();
+                sort = sortOfWord(at - place);
             } else if (digitAt(at)) {
                 takeDigits();
             } else {
@@ -1126,7 +1131,6 @@ public final class TuneLocks {
                 word = word * 32 + (text[at] - 'a' + 1);
                 at++;
             }
-            sort = at - place > LONGEST_WORD ? NO_TOKEN : sortOfWord(at - place);
         }
 
         private void takeDigits() {
@@ -1139,6 +1143,9 @@ public final class TuneLocks {
         }
 
         private int sortOfWord(int length) {
+            if (length > LONGEST_WORD) {
+                return NO_TOKEN;
+            }
             for (int slot = 0; slot + LONGEST_WORD <= WORDS.length(); slot += LONGEST_WORD) {
                 int same = 0;
                 while (same < LONGEST_WORD
@@ -1269,7 +1276,7 @@ public final class TuneLocks {
             }
             best = 0;
             bestSize = NONE;
-            pick(town.tuneCount, 0, 0);
+            pick(this, town.tuneCount, 0, 0);
             return best;
         }
 
@@ -1277,19 +1284,19 @@ public final class TuneLocks {
          * Of the TUNES below that number some are still to be picked. The highest is left
          * out first: so sets come from the least on, and the first of its size stays.
          */
-        private void pick(int below, int chosen, int size) {
-            if (size + below <= bestSize) {
+        private static void pick(Deal deal, int below, int chosen, int size) {
+            if (size + below <= deal.bestSize) {
                 return;
             }
-            if (below < 1 || below > nearBits.length) {
-                best = chosen;
-                bestSize = size;
+            if (below < 1 || below > deal.nearBits.length) {
+                deal.best = chosen;
+                deal.bestSize = size;
                 return;
             }
             int tune = below - 1;
-            pick(tune, chosen, size);
-            if ((nearBits[tune] & chosen) == 0) {
-                pick(tune, chosen | 1 << tune, size + 1);
+            pick(deal, tune, chosen, size);
+            if ((deal.nearBits[tune] & chosen) == 0) {
+                pick(deal, tune, chosen | 1 << tune, size + 1);
             }
         }
     }
@@ -1327,7 +1334,7 @@ public final class TuneLocks {
                 }
             }
             fewest = MOST_LAID * TUNE_NOTES + 1;
-            layNext(0, 0, 0);
+            layNext(this, 0, 0, 0);
         }
 
         private static boolean isLeftOut(Town town, int set, int tune) {
@@ -1350,20 +1357,20 @@ public final class TuneLocks {
         }
 
         /** Rows come from the first on, so of like ones the first stays. */
-        private void layNext(int depth, int used, int notes) {
-            if (notes >= fewest) {
+        private static void layNext(Laying laying, int depth, int used, int notes) {
+            if (notes >= laying.fewest) {
                 return;
             }
-            if (depth >= count || depth >= MOST_LAID) {
-                fewest = notes;
-                System.arraycopy(row, 0, bestRow, 0, MOST_LAID);
+            if (depth >= laying.count || depth >= MOST_LAID) {
+                laying.fewest = notes;
+                System.arraycopy(laying.row, 0, laying.bestRow, 0, MOST_LAID);
                 return;
             }
-            for (int i = 0; i < count; i++) {
+            for (int i = 0; i < laying.count; i++) {
                 if ((used >> i & 1) == 0) {
-                    int over = depth == 0 ? 0 : overlaps[row[depth - 1]][i];
-                    row[depth] = i;
-                    layNext(depth + 1, used | 1 << i, notes + lengths[i] - over);
+                    int over = depth == 0 ? 0 : laying.overlaps[laying.row[depth - 1]][i];
+                    laying.row[depth] = i;
+                    layNext(laying, depth + 1, used | 1 << i, notes + laying.lengths[i] - over);
                 }
             }
         }
