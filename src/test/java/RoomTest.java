@@ -21,6 +21,11 @@ public final class RoomTest {
 
     public static void main(String[] args) {
         RoomTest t = new RoomTest();
+        if (!t.counter.isThreadAllocatedMemorySupported()) {
+            System.out.println("this machine does not count what is made");
+            return;
+        }
+        t.counter.setThreadAllocatedMemoryEnabled(true);
         t.newObject();
         t.townAfterTown();
         t.allOtherCalls();
