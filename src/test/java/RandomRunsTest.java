@@ -12,9 +12,12 @@ public final class RandomRunsTest {
     private final TuneLocks x = new TuneLocks();
     private final Plain y = new Plain();
     private int tunesTold;
+    // In some runs doors are shut and sung to again and again, so that they wear.
+    private final boolean wearing;
 
     private RandomRunsTest(long seed, Check check) {
         random = new Random(seed);
+        wearing = seed % 3 == 0;
         this.check = check;
     }
 
@@ -41,10 +44,14 @@ public final class RandomRunsTest {
 
     private void run() {
         for (int i = 0; i < CALLS; ) {
-            if (i == 0 || oneOf(60)) {
+            if (i == 0 || oneOf(wearing ? 300 : 60)) {
                 i += tell();
             } else {
-                call();
+                if (wearing && oneOf(2)) {
+                    wear();
+                } else {
+                    call();
+                }
                 i++;
             }
         }
@@ -371,6 +378,19 @@ public final class RandomRunsTest {
                 break;
             default:
                 due("fault", x.fault(what), y.fault(what));
+        }
+    }
+
+    private void wear() {
+        if (!y.open.isEmpty()) {
+            int l = y.open.first();
+            due("shut", x.shut(l), y.shut(l));
+        } else if (y.voice.size() > 24 || oneOf(5)) {
+            due("silence", x.silence(), y.silence());
+        } else {
+            int t = tune();
+            int higher = upTo(8) - 4;
+            due("song", x.song(t, higher), y.song(t, higher));
         }
     }
 

@@ -592,6 +592,11 @@ public final class SongEdgesTest {
         c.due("one lower, one higher", x.deaf(0, 3, 0), 0);
         c.due("both lower", x.deaf(1, 3, 0), 0);
         c.due("by turns", x.deaf(2, 3, 0), 0);
+        TuneLocks all = Check.told("tune zig of" + " 5 1 7 1".repeat(6) + ";tune s of" + " 24 1".repeat(12) + ";tune up of"
+                + " 5 1".repeat(11) + " 7 1;");
+        c.due("by turns, twelve of them", all.deaf(0, 1, 0), 0);
+        c.due("the last one alone higher", all.deaf(2, 1, 0), 0);
+        c.due("not deaf", all.deaf(0, 1, 1), 22);
         c.due("not deaf", x.deaf(2, 3, 1), 6);
         // It can't be sung as it is.
         c.due("must be moved", x.deaf(4, 4, 0), 1);
