@@ -568,6 +568,7 @@ public final class EarnestEdgesTest {
         // A night of the first lock is ahead of a day of the second.
         nextIs(tunes + "lock l near 0 opens night and notes < 3;lock m near 0 opens notes < 3;", 0, 1, 2);
         nextIs(tunes + "lock l near 0 opens night;lock m near 0 opens notes = 2 and night;lock n near 0 opens notes = 2;", 1, 1, 3);
+        nextIs(tunes + "lock l near 0 opens 0" + "+0".repeat(19) + " or notes = 1;", 0, 0, 3);
         nextIs(tunes, NONE, NONE, NONE);
         nextIs("lock l near 0 opens 1;", NONE, NONE, NONE);
         nextIs("", NONE, NONE, NONE);
@@ -585,6 +586,16 @@ public final class EarnestEdgesTest {
         }
         c.due("as known ahead", x.next(2, 0), 2);
         c.due("as known at first", x.next(2, -1), 2);
+        // Locks of towns told before are none of this one.
+        TuneLocks y = Check.told(tunes + "lock l near 0 opens 1;lock m near 0 opens notes < 3;");
+        c.due("two locks", y.next(0, 0), 1);
+        Check.put(y, tunes + "lock l near 0 opens notes < 4;");
+        y.town();
+        c.due("one lock", y.next(2, 0), 3);
+        Check.put(y, tunes + "lock l near 0 opens 1;");
+        y.town();
+        c.due("one lock again", y.next(0, 0), 0);
+        c.due("one lock again", y.next(2, 0), 4);
     }
 
     private void nextIs(String text, int lock, int night, int number) {

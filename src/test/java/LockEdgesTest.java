@@ -10,6 +10,7 @@ public final class LockEdgesTest {
 
     public static void main(String[] args) {
         LockEdgesTest t = new LockEdgesTest();
+        t.rowsOfSixty();
         t.nearAsItIs();
         t.nearOfEachLock();
         t.lyingInTheVoice();
@@ -21,6 +22,28 @@ public final class LockEdgesTest {
         t.eachUnitForTheThief();
         t.wornAsKept();
         t.c.finish();
+    }
+
+    /** "both {or both}", "one {and one}", "unit {(+ | -) unit}": rows of as many as can be, each of which tells. */
+    private void rowsOfSixty() {
+        for (int at = 0; at < 60; at++) {
+            row("0", " or ", at, "7", 1);
+            row("7", " and ", at, "0", 0);
+            row("1", " + ", at, "8", 67);
+            row("1", " - ", at, "8", at == 0 ? -51 : -65);
+        }
+        row("0", " or ", 0, "0", 0);
+        row("7", " and ", 0, "7", 1);
+    }
+
+    private void row(String unit, String joint, int at, String other, int due) {
+        StringBuilder s = new StringBuilder("tune a of 1 1;lock l near 0 opens ");
+        for (int i = 0; i < 60; i++) {
+            s.append(i == 0 ? "" : joint).append(i == at ? other : unit);
+        }
+        TuneLocks x = Check.told(s + ";");
+        c.due("asked of " + s, x.asked(0, 0, false), due);
+        c.due("sung to " + s, x.sing(1, 1), due != 0 ? 1 : 0);
     }
 
     /** Three NOTES alike open it, too; to them a is off by 5. */

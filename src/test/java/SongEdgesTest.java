@@ -36,6 +36,7 @@ public final class SongEdgesTest {
         t.goodOfAll();
         t.deafForATone();
         t.deafOneByOne();
+        t.deafAtEachPlace();
         t.fewestNotes();
         t.c.finish();
     }
@@ -385,6 +386,12 @@ public final class SongEdgesTest {
         c.due("the second in the first", y.dealt(0), 1);
         TuneLocks z = Check.told("tune short of 0 1 2 1;tune long of 0 1 5 1 7 1;");
         c.due("the first in the second", z.dealt(0), 1);
+        TuneLocks v = Check.told("tune long of 0 1 5 1 7 1;tune short of 0 1 3 1;lock l near 9 opens 1+1+1+1+1;");
+        c.due("the second off by 1 in the first, dealt(0)", v.dealt(0), 3);
+        c.due("the second off by 1 in the first, dealt(1)", v.dealt(1), 1);
+        TuneLocks w = Check.told("tune short of 0 1 3 1;tune long of 0 1 5 1 7 1;lock l near 9 opens 1+1+1+1+1;");
+        c.due("the first off by 1 in the second, dealt(0)", w.dealt(0), 3);
+        c.due("the first off by 1 in the second, dealt(1)", w.dealt(1), 1);
     }
 
     /** "the most TUNES no two of which are NEAR; of like ones the least set (as bits)". */
@@ -622,6 +629,52 @@ public final class SongEdgesTest {
         c.due("at the last place", y.deaf(0, 1, 5), 0);
         c.due("at the last place", y.deaf(0, 1, 4), 0);
         c.due("not deaf", y.deaf(0, 1, 2), 1);
+    }
+
+    /** "the least OFF of a TUNE IN it then": of all places and all ways to sing, each tried here. */
+    private void deafAtEachPlace() {
+        int[][][] tunes = new int[12][][];
+        StringBuilder s = new StringBuilder();
+        for (int t = 0; t < 12; t++) {
+            tunes[t] = new int[t + 1][];
+            s.append("tune ").append((char) ('a' + t)).append(" of");
+            for (int i = 0; i <= t; i++) {
+                // Some tones again and again, some far away, and few lengths.
+                int high = (i * i * (t + 3) + 5 * t) % (t % 3 == 0 ? 5 : 19) + 15 + t % 2 * (i % 3) * 12;
+                tunes[t][i] = new int[] {high, (i * t + i / 2) % 2 + 1};
+                s.append(' ').append(high).append(' ').append(tunes[t][i][1]);
+            }
+            s.append(';');
+        }
+        for (int song = 0; song < 12; song++) {
+            TuneLocks x = Check.told(s.toString());
+            for (int tune = 0; tune < 12; tune++) {
+                for (int tone = 0; tone < 12; tone++) {
+                    c.due("deaf(" + tune + ", " + song + ", " + tone + ") of " + s, x.deaf(tune, song, tone),
+                            leastDeaf(tunes[tune], tunes[song], tone));
+                }
+            }
+        }
+    }
+
+    private static int leastDeaf(int[][] tune, int[][] song, int tone) {
+        int least = NONE;
+        for (int place = 0; place + tune.length <= song.length; place++) {
+            for (int ways = 0; ways < 1 << tune.length; ways++) {
+                int off = 0;
+                for (int i = 1; i < tune.length; i++) {
+                    int there = sung(song[place + i][0], tone, ways >> i) - sung(song[place + i - 1][0], tone, ways >> i - 1);
+                    off += Math.abs(tune[i][0] - tune[i - 1][0] - there);
+                    off += song[place + i][1] * tune[0][1] == song[place][1] * tune[i][1] ? 0 : 1;
+                }
+                least = least == NONE || off < least ? off : least;
+            }
+        }
+        return least;
+    }
+
+    private static int sung(int high, int tone, int way) {
+        return high % 12 != tone ? high : (way & 1) == 0 ? high - 1 : high + 1;
     }
 
     /** "LEAST: the TUNE of fewest NOTES by which it OPENS as it is; of like ones the first". */

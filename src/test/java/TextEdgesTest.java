@@ -252,6 +252,8 @@ public final class TextEdgesTest {
     /** "each of 1 to 12 NOTES"; "a 13th NOTE: there". */
     private void numberOfNotes() {
         c.bad(2, "tune a of^;");
+        c.bad(2, tunes(1) + "tune b of^;");
+        c.bad(2, tunes(1) + "tune b of 60 9 ^tune c of 1 1;");
         c.bad(2, "tune a of 1^;");
         c.due("1 note", c.good("tune a of" + notes(1) + ";", 1, 0).notes(0), 1);
         c.bad(2, "tune a of 1 1 1^;");
@@ -324,6 +326,7 @@ public final class TextEdgesTest {
     /** "sweet (1 to 12 of 0 .. 11)"; "a 13th N of sweet: there". */
     private void tonesOfSweet() {
         c.bad(2, "sweet^;");
+        c.bad(2, tunes(1) + "sweet^;");
         for (int tone = 0; tone < 12; tone++) {
             TuneLocks x = Check.told("sweet " + tone + ";tune a of 0 1 " + tone + " 1;tune b of 0 1 " + (tone + 1) + " 1;");
             c.due("sweet " + tone, x.round(0, 1), 0);
@@ -430,6 +433,20 @@ public final class TextEdgesTest {
         c.good(LOCK + "not not not not not not (1);", 0, 1);
         c.bad(2, LOCK + "not not not not not not (^(1));");
         c.bad(2, LOCK + "not not not not not not (1 < ^(1));");
+        for (String joint : new String[] {" or ", " and ", " + ", " - ", " < ", " > ", " = "}) {
+            c.good(LOCK + "((((((1" + joint + "(1)))))));", 0, 1);
+            c.bad(2, LOCK + "(((((((1" + joint + "^(1))))))));");
+            c.bad(2, LOCK + "(((((((1 or 1" + joint + "^(1))))))));");
+            c.bad(2, LOCK + "(((((((1 and 1" + joint + "^(1))))))));");
+            c.good(LOCK + "not not not not not not (1)" + joint + "1;", 0, 1);
+        }
+        for (String joint : new String[] {" or ", " and "}) {
+            c.good(LOCK + "((((((1" + joint + "not 1))))));", 0, 1);
+            c.bad(2, LOCK + "(((((((1" + joint + "^not 1)))))));");
+            c.bad(2, LOCK + "(((((((1 or 1 and 1" + joint + "^not 1)))))));");
+            // Behind it, too, as many can be within one another as ahead of it.
+            c.good(LOCK + "(((((((1)))))))" + joint + "not not not not not not not 1;", 0, 1);
+        }
         // A relation's or a sum's parts lie no deeper than it does.
         c.good(LOCK + "(((((((1 + 1 < 1 - 1 and 1 or 1)))))));", 0, 1);
     }
