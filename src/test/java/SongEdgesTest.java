@@ -30,6 +30,7 @@ public final class SongEdgesTest {
         t.upToSixTunes();
         t.leftOutOfAMaster();
         t.laidOverTheEnd();
+        t.laidOverByEach();
         t.firstRow();
         t.laterByD();
         t.oneHigherThanTheOther();
@@ -343,9 +344,11 @@ public final class SongEdgesTest {
     private void notZero() {
         String[] es = {"2<3", "3<3", "3<2", "3>2", "3>3", "2>3", "3=3", "3=2", "2=3", "7 and 9", "7 and 0", "0 and 7", "0 and 0",
             "7 or 9", "7 or 0", "0 or 7", "0 or 0", "not 0", "not 1", "not 7", "not (0-1)", "(0-1) and (0-1)", "0 or (0-7)",
+            "(0-7) or 0", "(0-7) or (0-7)", "(0-7) and 1", "1 and (0-7)", "(0-7) and 0", "0 and (0-7)",
             "0-1<0", "0-1>0", "0-1", "0", "1", "1-1", "not 0-1"};
         int[] due = {1, 0, 0, 1, 0, 0, 1, 0, 0, 1, 0, 0, 0,
             1, 1, 1, 0, 1, 0, 0, 0, 1, 1,
+            1, 1, 1, 1, 0, 0,
             1, 0, -1, 0, 1, 0, 0};
         for (int i = 0; i < due.length; i++) {
             TuneLocks x = Check.told("tune a of 1 1;lock l near 0 opens " + es[i] + ";");
@@ -495,6 +498,25 @@ public final class SongEdgesTest {
             s.append(";");
         }
         laid(Check.told(s.toString()), 63, 6 * 12 - 5, 0, 1, 2, 3, 4, 5);
+    }
+
+    /** "by as many NOTES as can be": of twelve the last one, the last two .. the last eleven, in another key and pace. */
+    private void laidOverByEach() {
+        int[] high = {20, 21, 19, 22, 18, 23, 17, 24, 16, 25, 15, 26};
+        for (int over = 1; over <= 11; over++) {
+            StringBuilder a = new StringBuilder("of");
+            StringBuilder b = new StringBuilder("of");
+            for (int i = 0; i < 12; i++) {
+                a.append(' ').append(high[i]).append(' ').append(i % 3 + 1);
+                if (i >= 12 - over) {
+                    b.append(' ').append(high[i] + 9).append(' ').append((i % 3 + 1) * 3);
+                }
+            }
+            b.append(" 60 1;");
+            laid(Check.told("tune a " + a + ";tune b " + b), 3, 13, 0, 1);
+            // By one NOTE they may be laid either way.
+            laid(Check.told("tune b " + b + "tune a " + a + ";"), 3, 13, over == 1 ? 0 : 1, over == 1 ? 1 : 0);
+        }
     }
 
     /** "of like rows the first (by numbers, the first counts most)". */
